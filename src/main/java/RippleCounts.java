@@ -232,8 +232,7 @@ public final class RippleCounts {
     /** Carries the orders of a pad without fault out, up to the first error, and tells how many. */
     private int carryAll() {
         int carried = 0;
-        int at = 0;
-        while (at < pad.length) {
+        for (int at = 0; at < pad.length; at++) {
             int wanted = pad.ordersAt(at);
             for (int order = 0; order < wanted; order++) {
                 if (carryOne(at) < 0) {
@@ -241,7 +240,6 @@ public final class RippleCounts {
                 }
                 carried++;
             }
-            at = pad.nextOrder(at);
         }
         return carried;
     }
@@ -259,8 +257,8 @@ public final class RippleCounts {
 
     /** The stages, and the turnings that are on their way through them. */
     private static final class Wave {
-        /** A power of 2 above MAX_DELAY: no two times at which turnings are due at once share a place. */
-        private static final int RING = 32;
+        /** The times from now to MAX_DELAY later: no two of them share a place. */
+        private static final int RING = MAX_DELAY + 1;
 
         int time;
         int stages = FIRST_STAGES;
@@ -298,11 +296,11 @@ public final class RippleCounts {
         }
 
         int output(int stage) {
-            return (shows >> stage) & 1;
+            return shows >> stage & 1;
         }
 
         void begin(int stage, int turnings) {
-            due[placeOf(stage, time + delays[stage])] += turnings;
+            due[stage * RING + (time + delays[stage]) % RING] += turnings;
             onTheirWay += turnings;
         }
 
@@ -310,12 +308,16 @@ public final class RippleCounts {
         int turnDue() {
             int turnings = 0;
             for (int stage = 0; stage < stages; stage++) {
-                int place = placeOf(stage, time);
+                int place = stage * RING + time % RING;
                 int many = due[place];
                 if (many > 0) {
                     due[place] = 0;
-                    turnOver(stage, many);
+                    onTheirWay -= many;
                     turnings += many;
+                    int falls = turnOver(stage, many);
+                    if (stage + 1 < stages) {
+                        begin(stage + 1, falls);
+                    }
                 }
             }
             return turnings;
@@ -336,7 +338,7 @@ public final class RippleCounts {
 
         int untilNext(int stage) {
             for (int ahead = 0; ahead < RING; ahead++) {
-                if (due[placeOf(stage, time + ahead)] > 0) {
+                if (due[stage * RING + (time + ahead) % RING] > 0) {
                     return ahead;
                 }
             }
@@ -377,19 +379,12 @@ public final class RippleCounts {
             return true;
         }
 
-        /** Every second change of an output is one from 1 to 0; the output that there is counts as a change. */
-        private void turnOver(int stage, int turnings) {
-            int changes = output(stage) + turnings;
+        /** Turns an output over so many times, and tells how often it fell: each fall ends a rise, old or new. */
+        private int turnOver(int stage, int turnings) {
+            int changes = (shows >> stage & 1) + turnings;
             shows = shows & ~(1 << stage) | (changes & 1) << stage;
             done[stage] += turnings;
-            onTheirWay -= turnings;
-            if (stage + 1 < stages) {
-                begin(stage + 1, changes / 2);
-            }
-        }
-
-        private static int placeOf(int stage, int dueTime) {
-            return stage * RING + (dueTime & RING - 1);
+            return changes / 2;
         }
     }
 
@@ -466,7 +461,7 @@ public final class RippleCounts {
                 return NOT_POSSIBLE;
             }
             int answer = takeClock();
-            return answer < 0 ? answer : letPass(1);
+            return answer < 0 ? answer : nanosecond();
         }
 
         int readGate() {
@@ -775,17 +770,12 @@ public final class RippleCounts {
             return number;
         }
 
-        /** How many orders stand at a place: a clock with a number is as many. */
+        /** How many orders begin at a place: a clock with a number is as many. */
         int ordersAt(int at) {
-            return signAt(at) == 'c' && isDigitAt(at + 1) ? numberAt(at + 1) : 1;
-        }
-
-        int nextOrder(int at) {
-            int next = at + 1;
-            while (next < length && signAt(next - 1) != ';') {
-                next++;
+            if (at > 0 && signAt(at - 1) != ';') {
+                return 0;
             }
-            return next;
+            return signAt(at) == 'c' && isDigitAt(at + 1) ? numberAt(at + 1) : 1;
         }
 
         private static int charactersIn(long characters) {

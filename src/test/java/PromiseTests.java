@@ -196,12 +196,18 @@ public final class PromiseTests {
         Due.is("read ahead of the ripple", 0, x.read());
         x.pass(4);
         Due.is("read behind it", 1, x.read());
-        for (int i = 2; i < 98; i++) {
+        for (int i = 2; i < 97; i++) {
             Due.is("read " + i, 1, x.read());
         }
+        x.latch();
+        Due.is("97 readings and a latch", 1, x.read());
+        Due.is("98 readings and a latch", TOO_MANY, x.read());
+        Due.is("98 readings", 98, x.count(4));
+        x.undo();
+        x.undo();
+        Due.is("98 readings without it", 1, x.read());
         x.clock();
         x.latch();
-        Due.is("98 readings and a latch", TOO_MANY, x.read());
         x.undo();
         Due.is("the 99th", 1, x.read());
         Due.is("the 100th", TOO_MANY, x.read());
