@@ -536,7 +536,8 @@ public final class RippleCounts {
         final int[] numbers = new int[MAX_READINGS];
         final int[] times = new int[MAX_READINGS];
         final int[] counts = new int[MAX_READINGS];
-        final boolean[] latched = new boolean[MAX_READINGS];
+        /** 1 for a latch, 0 for a gate: numbers, so that they can be copied like the rest. */
+        final int[] latched = new int[MAX_READINGS];
 
         void copyFrom(Readings other) {
             size = other.size;
@@ -557,7 +558,7 @@ public final class RippleCounts {
             numbers[size] = number;
             times[size] = time;
             counts[size] = clocks;
-            latched[size] = byLatch;
+            latched[size] = byLatch ? 1 : 0;
             size++;
         }
 
@@ -569,7 +570,7 @@ public final class RippleCounts {
                 case 0: return numbers[reading];
                 case 1: return times[reading];
                 case 2: return counts[reading];
-                case 3: return latched[reading] ? 1 : 0;
+                case 3: return latched[reading];
                 case 4: return isTrue(reading) ? 1 : 0;
                 default: return BAD_VALUE;
             }

@@ -1,7 +1,9 @@
 /** Long runs of mixed calls, each answered by the program and by the slow counter; the runs are always the same. */
 public final class RandomRunsTests {
-    private static final int RUNS = 400;
-    private static final int CALLS = 512;
+    private static final int RUNS = 2000;
+    /** Behind these a run asks everything, so that it stays below the 512 calls for which a counter is used. */
+    private static final int MOST_CALLS = 260;
+    private static final int MOODS = 7;
 
     private static long seed;
 
@@ -16,9 +18,16 @@ public final class RandomRunsTests {
     private static void oneRun(int run) {
         RippleCounts fast = new RippleCounts();
         SlowCounter slow = new SlowCounter();
-        int mood = run % 5;
-        for (int call = 0; call < CALLS && Due.wrongOnes() == 0; call++) {
-            String where = "run " + run + ", call " + call + ": ";
+        int mood = run % MOODS;
+        int begun = Due.asked();
+        if (mood == 5) {
+            nearTheTimesEnd(fast, slow);
+        } else if (mood == 6) {
+            nearTooManyReadings(fast, slow);
+        }
+        int calls = 80 + pick(MOST_CALLS - 80);
+        while (Due.asked() - begun < calls && Due.wrongOnes() == 0) {
+            String where = "run " + run + ", call " + (Due.asked() - begun) + ": ";
             if (mood == 4 && pick(4) == 0) {
                 slowStages(where, fast, slow);
             } else if (pick(2) == 0) {
@@ -28,10 +37,29 @@ public final class RandomRunsTests {
             } else {
                 ask(where, fast, slow);
             }
-            if (call % 16 == 0) {
-                askAll(where, fast, slow);
-            }
         }
+        askAll("run " + run + ", at its end: ", fast, slow);
+        Due.is("run " + run + ": calls of one counter", 1, Due.asked() - begun <= 512 ? 1 : 0);
+    }
+
+    private static void nearTheTimesEnd(RippleCounts fast, SlowCounter slow) {
+        for (int i = 0; i < 5; i++) {
+            carried(fast, slow, "t99;".repeat(19) + "t99");
+        }
+    }
+
+    private static void nearTooManyReadings(RippleCounts fast, SlowCounter slow) {
+        carried(fast, slow, "r;".repeat(39) + "r");
+        carried(fast, slow, "c9;" + "r;".repeat(38) + "r");
+        carried(fast, slow, "r;r;r;c3;r;r;r;r;r;r;r;r");
+    }
+
+    private static void carried(RippleCounts fast, SlowCounter slow, String text) {
+        for (int from = 0; from < text.length(); from += 8) {
+            long characters = Packed.of(text.substring(from, Math.min(text.length(), from + 8)));
+            Due.is("put " + characters, slow.put(characters), fast.put(characters));
+        }
+        Due.is("carryOut of '" + text + "'", slow.carryOut(), fast.carryOut());
     }
 
     private static int pick(int below) {
@@ -53,7 +81,7 @@ public final class RandomRunsTests {
 
     private static void change(String where, RippleCounts fast, SlowCounter slow, int mood) {
         int kind = pick(32);
-        if (kind == 0 && mood != 1) {
+        if (kind == 0 && mood != 1 && mood != 6) {
             int value = oftenGood(1, 5);
             Due.is(where + "set STAGES " + value, slow.set(0, value), fast.set(0, value));
         } else if (kind == 1) {
@@ -66,7 +94,7 @@ public final class RandomRunsTests {
         } else if (kind < 12) {
             Due.is(where + "clock", slow.clock(), fast.clock());
         } else if (kind < 18) {
-            int many = mood == 2 ? oftenGood(1, 99) : oftenGood(1, 8);
+            int many = mood == 2 || mood == 5 ? oftenGood(1, 99) : oftenGood(1, 8);
             Due.is(where + "pass " + many, slow.pass(many), fast.pass(many));
         } else if (kind < 22) {
             Due.is(where + "read", slow.read(), fast.read());
@@ -165,12 +193,14 @@ public final class RandomRunsTests {
                 Due.is(where + "of " + stage + ", " + what, slow.of(stage, what), fast.of(stage, what));
             }
         }
-        for (int reading = 0; reading <= slow.count(4); reading++) {
-            for (int what = 0; what < 5; what++) {
+        int size = slow.count(4);
+        for (int reading = 0; reading <= size; reading++) {
+            for (int what = 0; what < 5 && (reading < 4 || reading > size - 4); what++) {
                 Due.is(where + "reading " + reading + ", " + what, slow.reading(reading, what), fast.reading(reading, what));
             }
         }
-        for (int rank = 0; rank <= 32; rank++) {
+        int numbers = Integer.bitCount(slow.count(6));
+        for (int rank = 0; rank <= numbers && rank <= 32; rank++) {
             for (int what = 0; what < 4; what++) {
                 Due.is(where + "seen " + rank + ", " + what, slow.seen(rank, what), fast.seen(rank, what));
             }
