@@ -19,12 +19,14 @@ public final class LanguageTests {
         "restore(int)"};
     private static final String[] CONSTANTS = {"NO_SUCH", "BAD_VALUE", "BAD_TEXT", "TOO_MANY", "NOT_POSSIBLE", "NONE",
         "STAGES", "HOLD"};
+    private static final Set<String> LIBRARY = Set.of("System.arraycopy", "Arrays.fill", "Math.min", "Math.max");
 
     public static void main(String[] args) throws IOException {
         String source = Files.readString(Path.of("src/main/java/RippleCounts.java"));
         face();
         nested();
         words(source);
+        library(source);
         Due.end();
     }
 
@@ -39,7 +41,10 @@ public final class LanguageTests {
                 hold("public: " + method, Modifier.isPublic(method.getModifiers()));
                 hold("answers int: " + method, method.getReturnType() == int.class);
                 methods.add(method.getName() + parameters(method));
+            } else {
+                noNameOfTheFace(method);
             }
+            hold("at most seven parameters: " + method, method.getParameterCount() <= 7);
         }
         hold("the face's methods: " + methods, methods.equals(new TreeSet<>(Arrays.asList(FACE))));
         Set<String> constants = new TreeSet<>();
@@ -76,15 +81,34 @@ public final class LanguageTests {
             }
             hold("at most twenty fields: " + inside, fields <= 20);
             for (Method method : inside.getDeclaredMethods()) {
-                for (String open : FACE) {
-                    hold("no name of the face: " + method, !open.startsWith(method.getName() + "("));
-                }
+                noNameOfTheFace(method);
+                hold("at most seven parameters: " + method, method.getParameterCount() <= 7);
             }
         }
     }
 
+    private static void noNameOfTheFace(Method method) {
+        for (String open : FACE) {
+            hold("no name of the face: " + method, !open.startsWith(method.getName() + "("));
+        }
+    }
+
+    private static String withoutComments(String source) {
+        return source.replaceAll("(?s)/\\*.*?\\*/", " ").replaceAll("//[^\n]*", " ");
+    }
+
+    /** What a class of the library is asked for: the program uses less of it than the rules leave. */
+    private static void library(String source) {
+        Matcher call = Pattern.compile("\\b(System|Arrays|Math|Integer|Long|String|List|Character)\\s*\\.\\s*(\\w+)")
+            .matcher(withoutComments(source).replaceAll("import[^;]*;", " "));
+        while (call.find()) {
+            String name = call.group(1) + "." + call.group(2);
+            hold("of the library: " + name, LIBRARY.contains(name));
+        }
+    }
+
     private static void words(String source) {
-        String code = source.replaceAll("(?s)/\\*.*?\\*/", " ").replaceAll("//[^\n]*", " ");
+        String code = withoutComments(source);
         String[] banned = {"throw", "throws", "try", "catch", "finally", "synchronized", "assert", "Exception", "volatile",
             "transient", "native", "System\\.(?!arraycopy)", "->", "::", "package", "hashCode", "toString",
             "Math\\.\\w*Exact"};
